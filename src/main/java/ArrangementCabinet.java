@@ -1051,7 +1051,7 @@ public final class ArrangementCabinet {
         private int takeNumber(Row row, Text text, int place) {
             int end = text.endOfDigits(place);
             int thing = text.numberBelow(row.size, place, end);
-            if (end == place || thing >= row.size || (toldThings >> thing & 1) == 1) {
+            if (end == place || thing >= row.size || ((toldThings >> thing) & 1) == 1) {
                 return place;
             }
             toldThings |= 1 << thing;
@@ -1135,7 +1135,7 @@ public final class ArrangementCabinet {
         private static int leastButMany(int left, int many) {
             int lesser = 0;
             for (int thing = 0; thing < MOST_THINGS; thing++) {
-                if ((left >> thing & 1) == 1) {
+                if (((left >> thing) & 1) == 1) {
                     if (lesser == many) {
                         return thing;
                     }
@@ -1189,7 +1189,7 @@ public final class ArrangementCabinet {
             boolean isBelow0 = text.signs[0] == '-';
             for (int place = text.firstDigit(); place < text.length; place++) {
                 int digit = text.signs[place] - '0';
-                if (isBelow0 && digit != 0 || !takeDigit(digit)) {
+                if ((isBelow0 && digit != 0) || !takeDigit(digit)) {
                     return false;
                 }
             }
@@ -1425,19 +1425,19 @@ public final class ArrangementCabinet {
         private static int identityOf(int places) {
             int packed = 0;
             for (int place = 0; place < places; place++) {
-                packed |= place << BITS * place;
+                packed |= place << (BITS * place);
             }
             return packed;
         }
 
         private static int thingAt(int member, int place) {
-            return member >> BITS * place & MASK;
+            return (member >> (BITS * place)) & MASK;
         }
 
         private int product(int left, int[] right) {
             int packed = 0;
             for (int place = 0; place < size; place++) {
-                packed |= thingAt(left, right[place]) << BITS * place;
+                packed |= thingAt(left, right[place]) << (BITS * place);
             }
             return packed;
         }
@@ -1457,7 +1457,7 @@ public final class ArrangementCabinet {
         int numberOf(Row row) {
             int packed = 0;
             for (int place = 0; place < size; place++) {
-                packed |= row.things[place] << BITS * place;
+                packed |= row.things[place] << (BITS * place);
             }
             return numbers[rankOf(packed)] - 1;
         }
@@ -1507,7 +1507,7 @@ public final class ArrangementCabinet {
         }
 
         private static int maskBelow(int number) {
-            return (1 << BITS * number) - 1;
+            return (1 << (BITS * number)) - 1;
         }
     }
 

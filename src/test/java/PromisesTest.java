@@ -553,6 +553,11 @@ public final class PromisesTest {
         due(x.hasRoot(2, 9), false);
         x.identity(3, 3);
         due(x.hasRoot(3, 9), true);
+        x.identity(4, 24);
+        x.rotate(4, 1);
+        due(x.hasRoot(4, 2), false);
+        due(x.hasRoot(4, 5), true);
+        due(x.hasRoot(4, 9), false);
         needsHeld(slot -> x.hasRoot(slot, 0));
         thrown(ARGUMENT, () -> x.hasRoot(0, 0));
         thrown(ARGUMENT, () -> x.hasRoot(0, 10));
@@ -815,6 +820,7 @@ public final class PromisesTest {
         thrown(INDEX, () -> x.generate(1, Integer.MAX_VALUE));
         thrown(INDEX, () -> x.generate(0, Integer.MIN_VALUE));
         thrown(NONE, () -> x.generate(0, 5));
+        thrown(NONE, () -> x.generate(0, 10));
         thrown(NONE, () -> x.generate(2, 3));
         thrown(NONE, () -> x.generate(9, 1));
         thrown(ARGUMENT, () -> x.generate(2, 2));

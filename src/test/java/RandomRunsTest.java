@@ -64,7 +64,7 @@ public final class RandomRunsTest {
                 wrong++;
             }
         }
-        System.out.println(RUNS + " runs, " + wrong + " wrong; " + ANSWERED);
+        System.out.println(RUNS + " runs of " + CALLS + " calls, " + wrong + " wrong");
         System.exit(wrong == 0 ? 0 : 1);
     }
 
@@ -87,6 +87,8 @@ public final class RandomRunsTest {
                 make("unrank", below(10), most);
             } else if (dice < 26) {
                 typeAll(noise(80));
+            } else if (dice < 28) {
+                group();
             } else {
                 String[] parts = CALLS_TO_MAKE[below(CALLS_TO_MAKE.length)].split(" ");
                 Object[] arguments = new Object[parts.length - 1];
@@ -96,6 +98,28 @@ public final class RandomRunsTest {
                 make(parts[0], arguments);
             }
         }
+    }
+
+    /** A group of one size, and what is asked of it: by single calls this would come about too seldom. */
+    private void group() throws Exception {
+        int size = Math.min(7, most - below(2));
+        int many = 1 + below(4);
+        int first = below(11 - many);
+        for (int slot = first; slot < first + many; slot++) {
+            make("identity", slot, size);
+            make(below(3) == 0 ? "rotate" : "copy", slot, below(2) == 0 ? 1 : slot);
+            make("swap", slot, below(size), below(size));
+            make("swap", slot, below(size), below(size));
+        }
+        make("generate", first, many);
+        for (int call = 0; call < 6; call++) {
+            make("multiply", first + below(many), below(10), below(10));
+            make("isMember", below(10));
+            make("word", below(10));
+            make("orbit", below(size));
+            make("stabiliser", below(size + 1));
+        }
+        make("isSound");
     }
 
     private void typeAll(String told) throws Exception {
