@@ -11,8 +11,13 @@ import java.util.regex.Pattern;
 public final class LanguageTest {
     private static final Set<String> THROWN = Set.of("IllegalStateException", "IllegalArgumentException",
             "IndexOutOfBoundsException", "NoSuchElementException", "UnsupportedOperationException",
-            // Not in rule 6, but promise 13 and the test under ../shared/tests ask for it.
+            // Not in rule 6, but promise 13 and the test under ../shared/tests ask for it: NOTES.md, issue 5.
             "NumberFormatException");
+
+    /** The only lines that may bear the name that rule 6 leaves out: the face's own, and the throw behind it. */
+    private static final List<String> NAMED_OFF_THE_LIST = List.of(
+            "throws IndexOutOfBoundsException, NumberFormatException, IllegalArgumentException {",
+            "throw new NumberFormatException(\"the text is no number\");");
 
     private static final Set<String> LIBRARY = Set.of("Math.min", "Math.floorMod", "Math.floorDiv",
             "Integer.compare", "Integer.bitCount", "System.arraycopy", "Arrays.fill");
@@ -40,6 +45,10 @@ public final class LanguageTest {
         due("thrown", found(code, "throw new (\\w+)\\(\"[^\"]*\"\\);"), THROWN);
         if (found(code, "throw ").size() > 0 && count(code, "\\bthrow\\b") != count(code, "throw new \\w+\\(\"")) {
             fault("a throw of another form");
+        }
+        List<String> named = code.lines().map(String::trim).filter(line -> line.contains("NumberFormat")).toList();
+        if (!named.equals(NAMED_OFF_THE_LIST)) {
+            fault("NumberFormatException stands in " + named);
         }
         due("library", found(code, "\\b((?:Math|Integer|Long|System|Arrays|String|Character)\\.\\w+)"), LIBRARY);
         for (String field : found(code, "(?m)^\\s*(?:private )?static ((?!final)\\w+ \\w+) *[=;]")) {
