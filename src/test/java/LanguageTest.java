@@ -11,7 +11,7 @@ import java.util.regex.Pattern;
 public final class LanguageTest {
     private static final Set<String> THROWN = Set.of("IllegalStateException", "IllegalArgumentException",
             "IndexOutOfBoundsException", "NoSuchElementException", "UnsupportedOperationException",
-            // Not in rule 6, but promise 13 and the test under ../shared/tests ask for it: NOTES.md, issue 5.
+            // Not in rule 6, but promise 13 names it, and issue 8 says that it stands so: NOTES.md.
             "NumberFormatException");
 
     /** The only lines that may bear the name that rule 6 leaves out: the face's own, and the throw behind it. */
@@ -41,7 +41,8 @@ public final class LanguageTest {
                 fault("forbidden: " + matcher.group());
             }
         }
-        due("imports", found(code, "import ([\\w.]+);"), Set.of("java.util.Arrays", "java.util.NoSuchElementException"));
+        due("imports", found(code, "import ([\\w.]+);"),
+                Set.of("java.util.Arrays", "java.util.NoSuchElementException"));
         due("thrown", found(code, "throw new (\\w+)\\(\"[^\"]*\"\\);"), THROWN);
         if (found(code, "throw ").size() > 0 && count(code, "\\bthrow\\b") != count(code, "throw new \\w+\\(\"")) {
             fault("a throw of another form");

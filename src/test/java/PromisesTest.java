@@ -330,6 +330,7 @@ public final class PromisesTest {
         unranks("00000000000000000000000000000000000000000000000000000000000000000000000000000001", 2, 1);
         due(kept(), 5);
         for (String told : new String[] {"", "+", "-", "+-1", "1+", " 1", "1 ", "1a", "a", "1.0", "--1"}) {
+            promise(13);
             typed(told);
             needsSlot(slot -> x.unrank(slot, 0));
             thrown(NumberFormatException.class, () -> x.unrank(0, 0));
@@ -337,6 +338,7 @@ public final class PromisesTest {
         }
         for (String told : new String[] {"6", "-1", "-6", "18446744073709551616", "4294967296",
             "99999999999999999999999999999999999999999999999999999999999999999999999999999999"}) {
+            promise(13);
             typed(told);
             needsSlot(slot -> x.unrank(slot, 3));
             thrown(ARGUMENT, () -> x.unrank(0, 3));

@@ -9,8 +9,9 @@ import java.util.TreeMap;
 
 /** Makes the same calls of the cabinet and of Model; each answer, or exception, and each checksum is to be one. */
 public final class RandomRunsTest {
-    private static final int RUNS = 600;
-    private static final int CALLS = 500;
+    private static final int RUNS = 1200;
+    /** With the checksum behind each of them twice as many: what calls behind the 512th answer is free. */
+    private static final int CALLS = 256;
 
     /**
      * What the arguments are: s a slot, n a size, p a place, l a length of a cycle, e an exponent or a
