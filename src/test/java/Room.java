@@ -117,10 +117,18 @@ final class Room {
         try {
             return String.valueOf(method.invoke(cabinet, arguments));
         } catch (InvocationTargetException e) {
-            return "throws." + e.getCause().getClass().getSimpleName();
+            return thrown(e.getCause());
         } catch (IllegalAccessException e) {
             throw new AssertionError(e);
         }
+    }
+
+    /** The exception's class itself, none below it, and whether the class has thrown it by a throw of its own. */
+    private static String thrown(Throwable exception) {
+        StackTraceElement[] from = exception.getStackTrace();
+        boolean isOwn = from.length > 0 && from[0].getClassName().startsWith("ArrangementCabinet");
+        String name = exception.getClass().getName().replaceFirst("^java\\.(lang|util)\\.", "");
+        return "throws." + name + (isOwn ? "" : " from the library");
     }
 
     private static Object argument(Class<?> type, String told) {

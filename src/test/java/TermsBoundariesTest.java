@@ -73,6 +73,20 @@ public final class TermsBoundariesTest extends Sayings {
                 lets(ranked + "; copy 0 1; next 1; compare 0 1", rank + 1 < all ? -1 : size == 1 ? 0 : 1);
             }
         }
+
+        says(TERMS, "Turning it round leaves n times (n - 1) by 2, less its inversions. Exchanging its two tableaux is "
+                + "inverting it.");
+        int[] many = {1, 2, 6, 24, 120};
+        for (int size = 1; size <= 5; size++) {
+            for (int rank = 0; rank < many[size - 1]; rank++) {
+                String[] ranked = {"identity 0 " + size, "skip 0 " + rank};
+                int inversions = Integer.parseInt(new Room(ranked).answer("inversions 0"));
+                room(ranked);
+                lets("reverse 0; inversions 0", size * (size - 1) / 2 - inversions);
+                lets("sign 0", inversions % 2 == 0 ? 1 : -1);
+                lets("exchange 0 1; invert 0; compare 0 1", 0);
+            }
+        }
     }
 
     private static void arrangements() {
